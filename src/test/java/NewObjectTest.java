@@ -1,3 +1,7 @@
+import java.util.ArrayList;
+import java.util.Collections;
+import java.util.List;
+
 /** Promise 1: a new object is in the state that the terms give. */
 public final class NewObjectTest {
     private static final int[] BLANK = {0, -1, 0, 0, 0, -1000, 0, 0};
@@ -73,6 +77,11 @@ public final class NewObjectTest {
         checks.due("PEAK TO is 0", peak.tap(0, 0, 0), 10);
         peak.set(1, 1);
         checks.due("PEAK FROM is 0", peak.tap(0, 0, 0), 20);
+        TapOffice percent = new TapOffice();
+        percent.set(1, 1440);
+        percent.fare(0, 0, 999);
+        percent.place(0, 0, true);
+        checks.due("PEAK PERCENT is 0", percent.tap(0, 0, 0), 999);
     }
 
     private static void objectsAreApart(Checks checks) {
@@ -91,20 +100,20 @@ public final class NewObjectTest {
         checks.due("its zone", x.card(0, 1), 1);
     }
 
-    private static java.util.List<Integer> blankState() {
-        java.util.List<Integer> blank = new java.util.ArrayList<>();
+    private static List<Integer> blankState() {
+        List<Integer> blank = new ArrayList<>();
         for (int card = 0; card < 4; card++) {
             for (int word : BLANK) {
                 blank.add(word);
                 blank.add(word);
             }
-            blank.addAll(java.util.Collections.nCopies(6, 0));
+            blank.addAll(Collections.nCopies(6, 0));
         }
         for (int validator = 0; validator < 4; validator++) {
-            blank.addAll(java.util.Collections.nCopies(8, -1));
+            blank.addAll(Collections.nCopies(8, -1));
             blank.add(0);
         }
-        blank.addAll(java.util.Collections.nCopies(4, 0));
+        blank.addAll(Collections.nCopies(4, 0));
         return blank;
     }
 }

@@ -92,6 +92,22 @@ public final class OfficeTest {
         }
         x.tap(0, 0, 8);
         officeIs(x, 0, checks, 497, 497, 0, 0, 0, 497);
+        mostEntries(checks);
+    }
+
+    /** 511 changes of one card, and the 512th call reads what the office has of them. */
+    private static void mostEntries(Checks checks) {
+        int[] want = {509, 511, 2, 0, 0, 509};
+        for (int what = 0; what < 6; what++) {
+            TapOffice x = new TapOffice();
+            for (int i = 0; i < 508; i++) {
+                x.topUp(0, 1);
+            }
+            x.tap(0, 0, 8);
+            x.tap(0, 1, 8);
+            x.topUp(0, 1);
+            checks.due("office(0, " + what + ") in the end", x.office(0, what), want[what]);
+        }
     }
 
     private static void wrongInputs(Checks checks) {
