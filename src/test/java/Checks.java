@@ -4,18 +4,24 @@ import java.util.List;
 /** Compares answers with those that are due, and ends a test with code 1 if one was wrong. */
 final class Checks {
     private int wrong;
+    private String sentence = "";
+
+    /** The words of the document that the checks from here on are about. */
+    void sentence(String words) {
+        sentence = '"' + words + "\": ";
+    }
 
     void due(String call, int got, int want) {
         if (got != want) {
             wrong++;
-            System.out.println(call + " answered " + got + ", due is " + want);
+            System.out.println(sentence + call + " answered " + got + ", due is " + want);
         }
     }
 
     void same(String what, List<Integer> got, List<Integer> want) {
         if (!got.equals(want)) {
             wrong++;
-            System.out.println(what + ": " + got + ", due is " + want);
+            System.out.println(sentence + what + ": " + got + ", due is " + want);
         }
     }
 
